@@ -463,6 +463,17 @@ public final class GongHouse {
         return sum;
     }
 
+    /** How many of a row's first entries tell something. */
+    private static int countTold(int[] row, int many) {
+        int sum = 0;
+        for (int i = 0; i < many && i < row.length; i++) {
+            if (row[i] != NONE) {
+                sum++;
+            }
+        }
+        return sum;
+    }
+
     /** Bytes that wait to be read as a tune. */
     private static final class Tape {
         final byte[] bytes = new byte[TAPE_BYTES];
@@ -654,17 +665,6 @@ public final class GongHouse {
         int countGongs() {
             return countTold(gongs, beats);
         }
-    }
-
-    /** How many of a row's first entries tell something. */
-    private static int countTold(int[] row, int many) {
-        int sum = 0;
-        for (int i = 0; i < many && i < row.length; i++) {
-            if (row[i] != NONE) {
-                sum++;
-            }
-        }
-        return sum;
     }
 
     /** What the two halves strike in a beat. */

@@ -11,6 +11,7 @@ public final class PiecesTest {
         rounds();
         levelsGoOn();
         plays();
+        turns();
         playsRefuses();
         damps();
         strikes();
@@ -166,6 +167,24 @@ public final class PiecesTest {
         check.due("step 16", x.plays(1, 1, 0, 16), BAD);
     }
 
+    private static void turns() {
+        GongHouse x = new GongHouse();
+        x.part(0, 1, NONE);
+        for (int which = 0; which < 3; which++) {
+            x.strike(0, which + 1, 0, 0, which);
+            x.use(0, which, which + 1);
+        }
+        String[] tunes = {"12", "21", "11", "1.", ".1", "..", "1.2", "2.1"};
+        String[] turns = {"12", "21", "00", "00", "00", "00", "012", "021"};
+        for (int i = 0; i < tunes.length; i++) {
+            Check.tune(x, 0, tunes[i]);
+            for (int beat = 0; beat < tunes[i].length(); beat++) {
+                int due = x.told(0, beat, 1) + turns[i].charAt(beat) - '0';
+                check.due("turn of beat " + beat + " of " + tunes[i], x.plays(1, 0, beat, 0), due);
+            }
+        }
+    }
+
     private static void playsRefuses() {
         GongHouse x = house();
         int[][] calls = {{-1, 0, 0, 0}, {4, 0, 0, 0}, {0, -1, 0, 0}, {0, 2, 0, 0}, {0, 0, -1, 0}, {0, 0, 4, 0}, {0, 0, 0, -1}, {0, 0, 0, 2}};
@@ -196,7 +215,7 @@ public final class PiecesTest {
             check.due("not from the beat ahead", x.damps(1, 0, 1, step), due[step]);
             check.due("the other half", x.damps(2, 0, 0, step), NONE);
         }
-        Check.half(x, 2, 0, 1, "-3----4-");
+        Check.half(x, 2, 0, 1, "3-----4-");
         check.due("the other half", x.damps(2, 0, 0, 6), 3);
         check.due("the main half's own", x.damps(1, 0, 0, 5), 2);
     }
