@@ -82,12 +82,12 @@ public final class GongHouse {
     }
 
     public int tune(int circle) {
-        // The circle is asked ahead of the tape: a call refused for it has not read the tape.
+        int fault = reader.faultOf(tape);
+        // A tune uses the tape up whatever it answers, a bad circle included.
+        tape.length = 0;
         if (!isBelow(circle, CIRCLES)) {
             return BAD;
         }
-        int fault = reader.faultOf(tape);
-        tape.length = 0;
         if (fault != NONE) {
             return FAULT_BASE - fault;
         }

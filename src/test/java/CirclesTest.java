@@ -148,12 +148,16 @@ public final class CirclesTest {
         check.due("bad circle, empty tape", x.tune(4), BAD);
         Check.tape(x, "7x");
         check.due("bad circle ahead of a fault", x.tune(-1), BAD);
-        x.trim(0);
+        check.due("used up by a bad circle and a fault", x.count(6), 0);
+        Check.tape(x, "7");
+        check.due("bad circle ahead of NO", x.tune(4), BAD);
+        check.due("used up by a bad circle and NO", x.count(6), 0);
         Check.tape(x, "67");
         check.due("bad circle", x.tune(4), BAD);
-        check.due("a tape that was not read stays", x.count(6), 2);
-        check.due("and can be read", x.tune(0), 2);
-        check.due("as it was", x.told(0, 1, 0), 6);
+        check.due("used up by a bad circle", x.count(6), 0);
+        check.due("nothing is left to read", x.tune(0), -100);
+        check.due("the circle stays", x.told(0, 1, 0), 1);
+        check.due("feed from the beginning", x.feed(0, 0, 0), 12);
     }
 
     private static void tones() {

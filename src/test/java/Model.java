@@ -97,11 +97,11 @@ final class Model {
     }
 
     private int tune(int circle) {
+        String text = tape;
+        tape = "";
         if (!in(circle, 0, 3)) {
             return BAD;
         }
-        String text = tape;
-        tape = "";
         for (int many = 1; many <= text.length(); many++) {
             Matcher head = TUNE.matcher(text.substring(0, many));
             if (!head.matches() && !head.hitEnd()) {
