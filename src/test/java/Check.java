@@ -31,31 +31,14 @@ final class Check {
 
     /** Puts a text of at most 64 bytes on an empty tape. */
     static void tape(GongHouse x, String text) {
-        int head = text.length() % 12;
-        if (head > 0) {
-            feedFrom(x, text, 0);
-            x.trim(head);
-        }
-        for (int at = head; at < text.length(); at += 12) {
-            feedFrom(x, text, at);
+        for (int[] told : Calls.ofTape(text)) {
+            Calls.call(x, told);
         }
     }
 
     static int tune(GongHouse x, int circle, String text) {
         tape(x, text);
         return x.tune(circle);
-    }
-
-    private static void feedFrom(GongHouse x, String text, int at) {
-        x.feed(word(text, at), word(text, at + 4), word(text, at + 8));
-    }
-
-    static int word(String text, int at) {
-        int word = 0;
-        for (int i = at; i < at + 4; i++) {
-            word = word << 8 | (i < text.length() ? text.charAt(i) & 255 : 0);
-        }
-        return word;
     }
 
     /** Tells a half of a figure step by step: a digit, a letter a..d for -1..-4, or - for nothing. */
@@ -65,7 +48,7 @@ final class Check {
         }
     }
 
-    private static int shift(char sign) {
+    static int shift(char sign) {
         if (sign == '-') {
             return GongHouse.NONE;
         }

@@ -1,10 +1,9 @@
+import java.util.Arrays;
 import java.util.Random;
 
 /** Random runs of 512 calls, each answer against that of the plain model; no call may throw. */
 public final class ModelTest {
     private static final int NONE = GongHouse.NONE;
-    private static final String[] NAMES = {"feed", "trim", "tune", "told", "isOf", "strike", "lay", "together", "wrong", "use",
-        "part", "signal", "drop", "round", "plays", "damps", "strikes", "ticks", "leaps", "choice", "sheet", "mark", "copy", "count"};
     private static final int[] WEIGHTS = {4, 4, 4, 8, 6, 30, 10, 8, 8, 8, 6, 6, 1, 10, 20, 20, 10, 4, 14, 6, 4, 16, 6, 10};
     private static final int[] WILD = {Integer.MIN_VALUE, Integer.MAX_VALUE, NONE, GongHouse.BAD, -1, 0, 1, 256, -256, 1 << 30, 65536};
     private static final Check check = new Check("ModelTest");
@@ -35,7 +34,7 @@ public final class ModelTest {
 
     private static void both(int method, int... a) {
         calls++;
-        String text = run + NAMES[method] + java.util.Arrays.toString(a);
+        String text = run + Calls.text(method, a);
         check.due(text, Calls.call(house, method, a), model.call(method, a));
     }
 
@@ -74,14 +73,9 @@ public final class ModelTest {
 
     private static void someTune() {
         String text = someTuneText();
-        both(1, 0);
-        int head = text.length() % 12;
-        if (head > 0) {
-            both(0, Check.word(text, 0), Check.word(text, 4), Check.word(text, 8));
-            both(1, head);
-        }
-        for (int at = head; at < text.length(); at += 12) {
-            both(0, Check.word(text, at), Check.word(text, at + 4), Check.word(text, at + 8));
+        both(Calls.TRIM, 0);
+        for (int[] told : Calls.ofTape(text)) {
+            both(told[0], Arrays.copyOfRange(told, 1, told.length));
         }
         both(2, some(4));
     }
