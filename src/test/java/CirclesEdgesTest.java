@@ -22,6 +22,7 @@ public final class CirclesEdgesTest {
         trimKeepsTheFirstBytes();
         trimTakes0ToAllThereAre();
         theTapeIsUsedUpWhateverIsAnswered();
+        nothingIsLeftOfTheTuneAhead();
         aTuneIsOneOrMore();
         whatGoesOnWithEachByte();
         repeatsAre2To9();
@@ -276,6 +277,25 @@ public final class CirclesEdgesTest {
         for (int[] act : acts) {
             Calls.call(x, act);
             check.due("bytes behind another act", x.count(6), 60);
+        }
+    }
+
+    /** "uses it up": a TUNE is read from its own first byte on, wherever the one ahead of it broke off */
+    private static void nothingIsLeftOfTheTuneAhead() {
+        String[] ahead = {"12", "1", "1G", "1x", "[", "[1", "[1G", "[12]", "[12]x", "[12]2", "12[3]2", "1".repeat(33), "[1]9[1]9[1]9[1]9"};
+        String[] texts = {"34", "G3", "]2", "[3]2", "23", "2", ".L5"};
+        int[] due = {2, -100, -100, 2, 2, NO, 2};
+        for (String first : ahead) {
+            for (int circle : new int[] {0, 4}) {
+                for (int i = 0; i < texts.length; i++) {
+                    GongHouse x = new GongHouse();
+                    Check.tune(x, circle, first);
+                    check.due(texts[i] + " behind " + first, Check.tune(x, 1, texts[i]), due[i]);
+                }
+            }
+            GongHouse x = new GongHouse();
+            Check.tune(x, 0, first);
+            check.due("no byte behind " + first, x.tune(0), -100);
         }
     }
 

@@ -18,6 +18,7 @@ public final class LeapsEdgesTest {
         leapsAreOfKeysThatAreBent();
         leapsOfNothingAndTheMost();
         figuresAreForSameHigherLower();
+        leapsOfWhatIsToldNow();
         choiceCirclesAndLevels();
         choiceNoIfNoFigureIsRight();
         choiceOfOneFigure();
@@ -162,14 +163,33 @@ public final class LeapsEdgesTest {
 
     /** leaps: "(for the same, higher, lower)" */
     private static void figuresAreForSameHigherLower() {
-        GongHouse x = flatHouse(0, 0, 1, 2, 3, 4);
-        Check.tune(x, 0, "113");
         // Keys of the beats: same 0, higher 0, lower 2, and the shift of each figure
-        check.due("leaps 0", x.leaps(0, 0, 0), 4);
-        check.due("leaps 400: keys 4 0 2", x.leaps(0, 0, 400), 4 + 2 + 2);
-        check.due("leaps 40: keys 0 4 2", x.leaps(0, 0, 40), 4 + 2 + 2);
-        check.due("leaps 4: keys 0 0 6", x.leaps(0, 0, 4), 0 + 6 + 6);
-        check.due("leaps 320: keys 3 2 2", x.leaps(0, 0, 320), 1 + 0 + 1);
+        int[] figures = {0, 400, 40, 4, 320, 24};
+        int[] due = {4, 4 + 2 + 2, 4 + 2 + 2, 0 + 6 + 6, 1 + 0 + 1, 2 + 4 + 6};
+        for (int i = 0; i < figures.length; i++) {
+            GongHouse x = flatHouse(0, 0, 1, 2, 3, 4);
+            Check.tune(x, 0, "113");
+            check.due("leaps with " + figures[i], x.leaps(0, 0, figures[i]), due[i]);
+        }
+    }
+
+    /** LEAPS are those of what is told now, whatever was asked ahead of it at this LEVEL or another one. */
+    private static void leapsOfWhatIsToldNow() {
+        for (int level = 0; level < 4; level++) {
+            GongHouse x = flatHouse((level + 1) % 4, 1, 1, 1);
+            Check.tune(x, 0, "113");
+            check.due("another level", x.leaps(0, (level + 1) % 4, 12), 4);
+            for (int shift = -2; shift <= 2; shift++) {
+                tellFlat(x, level, 1, 0);
+                tellFlat(x, level, 2, shift);
+                int lower = 2 + shift;
+                check.due("same", x.leaps(0, level, 211), shift < 0 ? 2 * (5 + shift) : Math.max(2, shift) * 2);
+                tellFlat(x, level, 2, 4);
+                check.due("changed", x.leaps(0, level, 211), 8);
+                tellFlat(x, level, 2, shift);
+                check.due("lower", x.leaps(0, level, 112), 2 * lower);
+            }
+        }
     }
 
     /** choice: "BAD"; "CIRCLES 0 .. 3", "LEVELS 0 .. 3" */

@@ -33,6 +33,10 @@ public final class ModelTest {
     }
 
     private static void both(int method, int... a) {
+        // What an object answers behind its 512th call is free.
+        if (calls == 512) {
+            return;
+        }
         calls++;
         String text = run + Calls.text(method, a);
         check.due(text, Calls.call(house, method, a), model.call(method, a));

@@ -556,6 +556,19 @@ public final class PiecesEdgesTest {
             }
             check.due("in the round at level 0", x.strikes(1, 0), level == 0 ? 64 : 0);
         }
+        // Each half its own, by the figure of each beat: the same in beat 0, higher in 1, lower in 2
+        GongHouse x = new GongHouse();
+        Check.tune(x, 0, "112");
+        x.part(0, 1, 1);
+        String[] main = {"0---", "00--", "0000"};
+        String[] other = {"0000", "----", "---0"};
+        for (int which = 0; which < 3; which++) {
+            Check.half(x, 1, which + 1, 0, main[which]);
+            Check.half(x, 1, which + 1, 1, other[which]);
+            x.use(1, which, which + 1);
+        }
+        check.due("strikes of main", x.strikes(1, 0), 1 + 2 + 4);
+        check.due("strikes of other", x.strikes(2, 0), 4 + 0 + 1);
     }
 
     /** strikes: "BAD" */
