@@ -9,7 +9,7 @@ import java.util.Set;
 import java.util.TreeSet;
 import java.util.regex.Pattern;
 
-/** The document's face and nothing else, and the words that LANGUAGE.md rules out. */
+/** The document's face and nothing else, and the limits and words that LANGUAGE.md sets. */
 public final class FaceTest {
     private static final Path SOURCE = Path.of("src/main/java/GongHouse.java");
     private static final Check check = new Check("FaceTest");
@@ -18,6 +18,7 @@ public final class FaceTest {
         constants();
         methods();
         fields();
+        limits();
         words();
         check.end();
     }
@@ -71,6 +72,29 @@ public final class FaceTest {
         }
         Set<String> face = new TreeSet<>(Set.of("BAD", "NO", "FULL", "NONE", "NOTHING", "INDEX", "SIZE"));
         check.holds("the constants are " + face + ": " + open, face.equals(open));
+    }
+
+    /** Rule 11: at most seven parameters, some twelve classes, and some twenty fields beside a class's constants. */
+    private static void limits() {
+        Class<?>[] inside = GongHouse.class.getDeclaredClasses();
+        check.holds("twelve classes at most", inside.length + 1 <= 12);
+        isSmall(GongHouse.class);
+        for (Class<?> own : inside) {
+            isSmall(own);
+        }
+    }
+
+    private static void isSmall(Class<?> own) {
+        int fields = 0;
+        for (Field f : own.getDeclaredFields()) {
+            boolean isConstant = Modifier.isStatic(f.getModifiers());
+            check.holds(f + " is final, if it is of the class", !isConstant || Modifier.isFinal(f.getModifiers()));
+            fields += isConstant ? 0 : 1;
+        }
+        check.holds(own + " has twenty fields at most", fields <= 20);
+        for (Method m : own.getDeclaredMethods()) {
+            check.holds(m + " takes seven numbers at most", m.getParameterCount() <= 7);
+        }
     }
 
     private static void words() throws IOException {
